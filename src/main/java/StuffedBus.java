@@ -751,7 +751,6 @@ public final class StuffedBus {
 
         void forget() {
             state = IDLE;
-            pieceInBox = false;
             aborted = 0;
             whyAborted = 0;
             sentWholly = 0;
@@ -844,7 +843,6 @@ public final class StuffedBus {
 
         private void abort(int why) {
             state = IDLE;
-            pieceInBox = false;
             aborted++;
             whyAborted = why;
         }
