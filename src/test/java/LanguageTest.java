@@ -36,8 +36,8 @@ public final class LanguageTest {
     private static final String[] FORBIDDEN = {
         "->", "::", "\\bimport\\b", "\\bpackage\\b", "\\btry\\b", "\\bcatch\\b", "\\bfinally\\b",
         "\\bsynchronized\\b", "\\bassert\\b", "\\bequals\\b", "\\bhashCode\\b", "\\btoString\\b",
-        "\\bprotected\\b", "\\bfloat\\b", "\\bdouble\\b", "\\bwhile \\(true\\)", "for \\(;;", "\\bSystem\\.(?!arraycopy)",
-        "Exact\\("};
+        "\\bprotected\\b", "\\bfloat\\b", "\\bdouble\\b", "\\bwhile \\(true\\)", "for \\(;;",
+        "\\bSystem\\.(?!arraycopy)", "Exact\\("};
 
     private LanguageTest() {
     }

@@ -197,6 +197,10 @@ public final class MessagesTest {
 
     private static void theSenderHearsNothingElse() {
         StuffedBus bus = unheard();
+        // An empty frame must not be taken for what stood in its place of the box before.
+        for (int i = 0; i < 16; i++) {
+            Buses.over(bus, 3, Y, 50);
+        }
         Buses.send(bus, 0, Buses.message(30));
         bus.round();
         Buses.over(bus, 3, Y, 48);

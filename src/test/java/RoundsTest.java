@@ -160,7 +160,8 @@ public final class RoundsTest {
         Check.equal("error", bus.latest(2), 1);
     }
 
-    private static void spoils(String when, int identifier, int bit, int error, int bits, int sent, int heard) {
+    private static void spoils(
+            String when, int identifier, int bit, int error, int bits, int sent, int heard) {
         StuffedBus bus = new StuffedBus();
         Buses.frame(bus, 0, identifier);
         bus.spoil(bit);
