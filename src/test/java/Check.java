@@ -22,6 +22,14 @@ final class Check {
         equal(what, holds ? 1 : 0, 1);
     }
 
+    static void same(String what, String got, String due) {
+        made++;
+        if (!got.equals(due)) {
+            wrong++;
+            System.out.println(what + "\n  is  " + got + "\n  due " + due);
+        }
+    }
+
     /** Due is the exception's class itself, not one that is derived from it. */
     static void refuses(String what, Class<? extends RuntimeException> due, Call call) {
         Class<?> got = null;

@@ -45,21 +45,6 @@ public final class MessagesTest {
         return bus;
     }
 
-    private static void aboutIs(String when, StuffedBus bus, int... due) {
-        for (int what = 0; what < due.length; what++) {
-            Check.equal(when + ": about 0 " + what, bus.about(0, what), due[what]);
-        }
-    }
-
-    private static void messageIs(String when, StuffedBus bus, int c, int... due) {
-        Check.equal(when + ": length", bus.about(c, 8), due.length);
-        for (int i = 0; i < due.length; i++) {
-            Check.equal(when + ": byte " + i, bus.byteAt(c, i), due[i]);
-        }
-        Check.refuses(when + ": behind", IndexOutOfBoundsException.class, () -> bus.byteAt(c, due.length));
-        Check.refuses(when + ": -1", IndexOutOfBoundsException.class, () -> bus.byteAt(c, -1));
-    }
-
     private static void messagesOfAllSizesCome() {
         int[] sizes = {1, 6, 7, 8, 13, 14, 20, 21, 118, 119, 255, 256, 399, 400};
         for (int block = 0; block < 16; block++) {
@@ -71,68 +56,55 @@ public final class MessagesTest {
                 int answers = size < 8 ? 0 : block == 0 ? 1 : 1 + (following - 1) / block;
                 bus.rounds(following + answers);
                 came++;
-                aboutIs("not yet " + size, bus, 1, 0, 0, came - 1, size < 8 ? 0 : 1, 0, 0, came - 1);
+                Due.aboutIs("not yet " + size, bus, 1, 0, 0, came - 1, size < 8 ? 0 : 1, 0, 0, came - 1);
                 bus.round();
-                aboutIs("all " + size, bus, 0, 0, 0, came, 0, 0, 0, came, size);
-                messageIs("block " + block, bus, 0, Buses.message(size));
+                Due.aboutIs("all " + size, bus, 0, 0, 0, came, 0, 0, 0, came, size);
+                Due.messageIs("block " + block, bus, 0, Buses.message(size));
                 Check.equal("nothing more", bus.round(), 0);
             }
         }
     }
 
-    private static void goes(String what, StuffedBus bus, int node, int identifier, int... bytes) {
-        Check.equal(what + ": bits", bus.round(), Buses.bitsOf(identifier, bytes));
-        Check.equal(what + ": identifier", bus.latest(0), identifier);
-        Check.equal(what + ": node", bus.latest(1), node);
-    }
-
-    /** A frame with the same identifier and bytes from another node goes together with the piece. */
-    private static void goesJustSo(String what, StuffedBus bus, int node, int identifier, int... bytes) {
-        Buses.frame(bus, 5, identifier, bytes);
-        goes(what, bus, node, identifier, bytes);
-        Check.equal(what + ": went together", bus.node(5, 3), 0);
-    }
-
     private static void piecesAreAsTold() {
         StuffedBus bus = connected(2);
         Buses.send(bus, 0, 9, 8, 7);
-        goesJustSo("one", bus, 0, X, 3, 9, 8, 7);
+        Due.goesJustSo("one", bus, 0, X, 3, 9, 8, 7);
         int[] m = Buses.message(300);
         Buses.send(bus, 0, m);
-        goesJustSo("first", bus, 0, X, 0x11, 0x2c, m[0], m[1], m[2], m[3], m[4], m[5]);
+        Due.goesJustSo("first", bus, 0, X, 0x11, 0x2c, m[0], m[1], m[2], m[3], m[4], m[5]);
         int at = 6;
         for (int k = 1; k <= 42; k++) {
             if (k % 2 == 1) {
-                goesJustSo("answer", bus, 1, Y, 48, 2, 0);
+                Due.goesJustSo("answer", bus, 1, Y, 48, 2, 0);
             }
-            goesJustSo("following " + k, bus, 0, X, 32 + k % 16,
+            Due.goesJustSo("following " + k, bus, 0, X, 32 + k % 16,
                     m[at], m[at + 1], m[at + 2], m[at + 3], m[at + 4], m[at + 5], m[at + 6]);
             at += 7;
         }
         Check.equal("it was all", bus.about(0, 0), 0);
         Buses.send(bus, 0, 1, 2, 3, 4, 5, 6, 7, 8);
         bus.rounds(2);
-        goesJustSo("what is left", bus, 0, X, 0x21, 7, 8);
+        Due.goesJustSo("what is left", bus, 0, X, 0x21, 7, 8);
     }
 
     private static void theSenderGoesThroughItsStates() {
         StuffedBus bus = connected(1);
-        aboutIs("at first", bus, 0, 0, 0, 0, 0, 0, 0, 0, 0);
+        Due.aboutIs("at first", bus, 0, 0, 0, 0, 0, 0, 0, 0, 0);
         Buses.send(bus, 0, Buses.message(20));
-        aboutIs("first frame in the box", bus, 1, 0, 0, 0, 0);
+        Due.aboutIs("first frame in the box", bus, 1, 0, 0, 0, 0);
         Check.equal("in the box", bus.node(0, 3), 1);
         bus.round();
-        aboutIs("first frame sent", bus, 2, 0, 0, 0, 1);
+        Due.aboutIs("first frame sent", bus, 2, 0, 0, 0, 1);
         Check.equal("nothing in the box", bus.node(0, 3), 0);
         Check.equal("the answer in the other box", bus.node(1, 3), 1);
         bus.round();
-        aboutIs("answered", bus, 1, 0, 0, 0, 1);
+        Due.aboutIs("answered", bus, 1, 0, 0, 0, 1);
         Check.equal("a following one in the box", bus.node(0, 3), 1);
         bus.round();
-        aboutIs("behind the block", bus, 2, 0, 0, 0, 1);
+        Due.aboutIs("behind the block", bus, 2, 0, 0, 0, 1);
         bus.round();
         bus.round();
-        aboutIs("sent, and no wait behind the last one", bus, 0, 0, 0, 1, 0, 0, 0, 1, 20);
+        Due.aboutIs("sent, and no wait behind the last one", bus, 0, 0, 0, 1, 0, 0, 0, 1, 20);
         Check.equal("no answer behind the last one", bus.node(1, 3), 0);
     }
 
@@ -185,14 +157,14 @@ public final class MessagesTest {
         stateIs("goes on in the last round", bus, 1);
         bus.round();
         Buses.over(bus, 3, Y, 50);
-        aboutIs("told so", bus, 0, 1, 1, 0);
+        Due.aboutIs("told so", bus, 0, 1, 1, 0);
         Check.equal("nothing goes on", bus.rounds(3), 0);
         Buses.send(bus, 0, 1);
         bus.round();
-        aboutIs("the next message", bus, 0, 1, 1, 1);
+        Due.aboutIs("the next message", bus, 0, 1, 1, 1);
         Buses.send(bus, 0, Buses.message(8));
         bus.rounds(42);
-        aboutIs("the latest reason", bus, 0, 2, 2, 1);
+        Due.aboutIs("the latest reason", bus, 0, 2, 2, 1);
     }
 
     private static void theSenderHearsNothingElse() {
@@ -215,14 +187,14 @@ public final class MessagesTest {
         bus.rounds(33);
         stateIs("and they do not begin the time anew", bus, 2);
         bus.round();
-        aboutIs("too many", bus, 0, 1, 2, 0);
+        Due.aboutIs("too many", bus, 0, 1, 2, 0);
         Buses.over(bus, 3, Y, 50);
-        aboutIs("no message is there", bus, 0, 1, 2, 0);
+        Due.aboutIs("no message is there", bus, 0, 1, 2, 0);
         bus.connect(0, 0, 1, Y, X, 0);
         Buses.send(bus, 0, Buses.message(30));
         Buses.over(bus, 3, X, 50);
         Check.equal("it goes before the first frame", bus.latest(0), X);
-        aboutIs("sending, not waiting", bus, 1, 0, 0, 0);
+        Due.aboutIs("sending, not waiting", bus, 1, 0, 0, 0);
     }
 
     private static void theSenderWaitsFortyRounds() {
@@ -230,9 +202,9 @@ public final class MessagesTest {
         Buses.send(bus, 0, Buses.message(30));
         bus.round();
         bus.rounds(40);
-        aboutIs("forty", bus, 2, 0, 0, 0);
+        Due.aboutIs("forty", bus, 2, 0, 0, 0);
         bus.round();
-        aboutIs("more than forty", bus, 0, 1, 2, 0);
+        Due.aboutIs("more than forty", bus, 0, 1, 2, 0);
     }
 
     private static void theSenderIsOff() {
@@ -240,22 +212,22 @@ public final class MessagesTest {
         Buses.send(bus, 0, 1, 2, 3);
         Buses.frame(bus, 3, X, 9);
         bus.rounds(31);
-        aboutIs("not off yet", bus, 1, 0, 0, 0);
+        Due.aboutIs("not off yet", bus, 1, 0, 0, 0);
         bus.round();
-        aboutIs("off as it sends", bus, 0, 1, 3, 0);
+        Due.aboutIs("off as it sends", bus, 0, 1, 3, 0);
         Buses.tape(bus, 1);
         Check.refuses("off", IllegalStateException.class, () -> bus.send(0));
         bus.restart(0);
         bus.send(0);
         bus.round();
-        aboutIs("it sends again", bus, 0, 1, 3, 1);
+        Due.aboutIs("it sends again", bus, 0, 1, 3, 1);
         StuffedBus waits = unheard();
         Buses.send(waits, 0, Buses.message(30));
         waits.round();
         Buses.switchOff(waits, 0, 3);
-        aboutIs("off as it waits", waits, 0, 1, 3, 0);
+        Due.aboutIs("off as it waits", waits, 0, 1, 3, 0);
         waits.rounds(50);
-        aboutIs("once", waits, 0, 1, 3, 0);
+        Due.aboutIs("once", waits, 0, 1, 3, 0);
     }
 
     private static void aPieceWaitsForRoom() {
@@ -286,26 +258,26 @@ public final class MessagesTest {
     private static void theHearerGathers() {
         StuffedBus bus = connected(0);
         Buses.over(bus, 0, X, FIRST_OF_20);
-        aboutIs("gathers", bus, 0, 0, 0, 0, 1, 0, 0, 0, 0);
-        goesJustSo("answer", bus, 1, Y, 48, 0, 0);
+        Due.aboutIs("gathers", bus, 0, 0, 0, 0, 1, 0, 0, 0, 0);
+        Due.goesJustSo("answer", bus, 1, Y, 48, 0, 0);
         Buses.over(bus, 0, X, NEXT);
         Check.equal("no answer in between", bus.node(1, 3), 0);
-        aboutIs("gathers", bus, 0, 0, 0, 0, 1, 0, 0, 0, 0);
+        Due.aboutIs("gathers", bus, 0, 0, 0, 0, 1, 0, 0, 0, 0);
         Buses.over(bus, 0, X, LAST);
-        aboutIs("there", bus, 0, 0, 0, 0, 0, 0, 0, 1, 20);
-        messageIs("there", bus, 0, 1, 2, 3, 4, 5, 6, 7, 8, 9, 10, 11, 12, 13, 14, 15, 16, 17, 18, 19, 20);
+        Due.aboutIs("there", bus, 0, 0, 0, 0, 0, 0, 0, 1, 20);
+        Due.messageIs("there", bus, 0, 1, 2, 3, 4, 5, 6, 7, 8, 9, 10, 11, 12, 13, 14, 15, 16, 17, 18, 19, 20);
         Buses.over(bus, 0, X, 0x10, 8, 31, 32, 33, 34, 35, 36);
         bus.round();
-        messageIs("the one before, while it gathers", bus, 0,
+        Due.messageIs("the one before, while it gathers", bus, 0,
                 1, 2, 3, 4, 5, 6, 7, 8, 9, 10, 11, 12, 13, 14, 15, 16, 17, 18, 19, 20);
         Buses.over(bus, 4, X, 0x21, 70, 80, 90, 91);
-        messageIs("more bytes than are due, from any node", bus, 0, 31, 32, 33, 34, 35, 36, 70, 80);
+        Due.messageIs("more bytes than are due, from any node", bus, 0, 31, 32, 33, 34, 35, 36, 70, 80);
     }
 
     private static void theHearerAnswersBehindEachBlock() {
         StuffedBus bus = connected(2);
         Buses.over(bus, 0, X, 0x10, 41, 1, 2, 3, 4, 5, 6);
-        goesJustSo("behind the first", bus, 1, Y, 48, 2, 0);
+        Due.goesJustSo("behind the first", bus, 1, Y, 48, 2, 0);
         for (int k = 1; k <= 5; k++) {
             Buses.over(bus, 0, X, 32 + k, 1, 2, 3, 4, 5, 6, 7);
             Check.equal("behind " + k, bus.node(1, 3), k == 2 || k == 4 ? 1 : 0);
@@ -322,9 +294,9 @@ public final class MessagesTest {
     private static void theHearerTakesOneFrames() {
         StuffedBus bus = connected(0);
         Buses.over(bus, 0, X, 7, 1, 2, 3, 4, 5, 6, 7);
-        messageIs("seven", bus, 0, 1, 2, 3, 4, 5, 6, 7);
+        Due.messageIs("seven", bus, 0, 1, 2, 3, 4, 5, 6, 7);
         Buses.over(bus, 0, X, 2, 8, 9, 10);
-        messageIs("two of three", bus, 0, 8, 9);
+        Due.messageIs("two of three", bus, 0, 8, 9);
         Check.equal("two came", bus.about(0, 7), 2);
         Check.equal("no answer", bus.node(1, 3), 0);
         Buses.over(bus, 0, X, 3, 1, 2);
@@ -332,24 +304,24 @@ public final class MessagesTest {
         Buses.over(bus, 0, X, 8, 1, 2, 3, 4, 5, 6, 7);
         Buses.over(bus, 0, X);
         Check.equal("these are nothing", bus.about(0, 7), 2);
-        messageIs("still", bus, 0, 8, 9);
+        Due.messageIs("still", bus, 0, 8, 9);
     }
 
     private static void theHearerRefusesLongOnes() {
         StuffedBus bus = connected(3);
         Buses.over(bus, 0, X, 0x11, 0x91, 1, 2, 3, 4, 5, 6);
-        aboutIs("401", bus, 0, 0, 0, 0, 0, 0, 0, 0, 0);
-        goesJustSo("refused", bus, 1, Y, 50, 0, 0);
+        Due.aboutIs("401", bus, 0, 0, 0, 0, 0, 0, 0, 0, 0);
+        Due.goesJustSo("refused", bus, 1, Y, 50, 0, 0);
         Buses.over(bus, 0, X, 0x1f, 0xff, 1, 2, 3, 4, 5, 6);
-        goesJustSo("4095", bus, 1, Y, 50, 0, 0);
+        Due.goesJustSo("4095", bus, 1, Y, 50, 0, 0);
         Buses.over(bus, 0, X, 0x18, 20, 1, 2, 3, 4, 5, 6);
-        goesJustSo("2068", bus, 1, Y, 50, 0, 0);
+        Due.goesJustSo("2068", bus, 1, Y, 50, 0, 0);
         Buses.over(bus, 0, X, 0x11, 0x90, 1, 2, 3, 4, 5, 6);
-        aboutIs("400", bus, 0, 0, 0, 0, 1, 0, 0, 0, 0);
-        goesJustSo("400", bus, 1, Y, 48, 3, 0);
+        Due.aboutIs("400", bus, 0, 0, 0, 0, 1, 0, 0, 0, 0);
+        Due.goesJustSo("400", bus, 1, Y, 48, 3, 0);
         Buses.over(bus, 0, X, 0x11, 0x91, 1, 2, 3, 4, 5, 6);
-        aboutIs("401 as it gathers", bus, 0, 0, 0, 0, 0, 1, 3, 0, 0);
-        goesJustSo("refused", bus, 1, Y, 50, 0, 0);
+        Due.aboutIs("401 as it gathers", bus, 0, 0, 0, 0, 0, 1, 3, 0, 0);
+        Due.goesJustSo("refused", bus, 1, Y, 50, 0, 0);
     }
 
     private static void theHearerFailsByOrder() {
@@ -361,20 +333,20 @@ public final class MessagesTest {
             Buses.over(bus, 0, X, FIRST_OF_20);
             bus.round();
             Buses.over(bus, 0, X, bytes);
-            aboutIs("wrong", bus, 0, 0, 0, 0, 0, 1, 1, 0, 0);
+            Due.aboutIs("wrong", bus, 0, 0, 0, 0, 0, 1, 1, 0, 0);
             Buses.over(bus, 0, X, NEXT);
-            aboutIs("a following one, as it does not gather", bus, 0, 0, 0, 0, 0, 1, 1, 0, 0);
+            Due.aboutIs("a following one, as it does not gather", bus, 0, 0, 0, 0, 0, 1, 1, 0, 0);
         }
         StuffedBus bus = connected(0);
         Buses.over(bus, 0, X, FIRST_OF_20);
         bus.round();
         Buses.over(bus, 0, X, NEXT);
         Buses.over(bus, 0, X, NEXT);
-        aboutIs("the same one again", bus, 0, 0, 0, 0, 0, 1, 1, 0, 0);
+        Due.aboutIs("the same one again", bus, 0, 0, 0, 0, 0, 1, 1, 0, 0);
         Buses.over(bus, 0, X, 0x10, 9, 1, 2, 3, 4, 5, 6);
         bus.round();
         Buses.over(bus, 0, X, 0x21, 7, 8);
-        aboutIs("too few of what is left", bus, 0, 0, 0, 0, 0, 2, 1, 0, 0);
+        Due.aboutIs("too few of what is left", bus, 0, 0, 0, 0, 0, 2, 1, 0, 0);
     }
 
     private static void theHearerFailsByNewOnes() {
@@ -383,16 +355,16 @@ public final class MessagesTest {
         bus.round();
         Buses.over(bus, 0, X, NEXT);
         Buses.over(bus, 0, X, FIRST_OF_20);
-        aboutIs("a first one", bus, 0, 0, 0, 0, 1, 1, 3, 0, 0);
-        goesJustSo("answered", bus, 1, Y, 48, 0, 0);
+        Due.aboutIs("a first one", bus, 0, 0, 0, 0, 1, 1, 3, 0, 0);
+        Due.goesJustSo("answered", bus, 1, Y, 48, 0, 0);
         Buses.over(bus, 0, X, NEXT);
         Buses.over(bus, 0, X, LAST);
-        aboutIs("gathered from the new one on", bus, 0, 0, 0, 0, 0, 1, 3, 1, 20);
+        Due.aboutIs("gathered from the new one on", bus, 0, 0, 0, 0, 0, 1, 3, 1, 20);
         Buses.over(bus, 0, X, FIRST_OF_20);
         bus.round();
         Buses.over(bus, 0, X, 1, 77);
-        aboutIs("one frame", bus, 0, 0, 0, 0, 0, 2, 3, 2, 1);
-        messageIs("one frame", bus, 0, 77);
+        Due.aboutIs("one frame", bus, 0, 0, 0, 0, 0, 2, 3, 2, 1);
+        Due.messageIs("one frame", bus, 0, 77);
     }
 
     private static void theHearerWaitsFortyRounds() {
@@ -402,11 +374,11 @@ public final class MessagesTest {
         Check.equal("forty", bus.about(0, 4), 1);
         Buses.over(bus, 0, X, NEXT);
         bus.rounds(40);
-        aboutIs("forty since the latest", bus, 0, 0, 0, 0, 1, 0, 0);
+        Due.aboutIs("forty since the latest", bus, 0, 0, 0, 0, 1, 0, 0);
         bus.round();
-        aboutIs("more than forty", bus, 0, 0, 0, 0, 0, 1, 2);
+        Due.aboutIs("more than forty", bus, 0, 0, 0, 0, 0, 1, 2);
         bus.rounds(50);
-        aboutIs("once", bus, 0, 0, 0, 0, 0, 1, 2);
+        Due.aboutIs("once", bus, 0, 0, 0, 0, 0, 1, 2);
     }
 
     private static void otherFramesAreNothing() {
@@ -419,7 +391,7 @@ public final class MessagesTest {
         bus.round();
         for (int[] bytes : others) {
             Buses.over(bus, 0, X, bytes);
-            aboutIs("nothing", bus, 0, 0, 0, 0, 1, 0, 0, 0, 0);
+            Due.aboutIs("nothing", bus, 0, 0, 0, 0, 1, 0, 0, 0, 0);
             Check.equal("no answer", bus.node(1, 3), 0);
         }
         bus.rounds(40 - 1 - others.length);
@@ -431,7 +403,7 @@ public final class MessagesTest {
             Buses.over(idle, 0, X, bytes);
         }
         Buses.over(idle, 0, X, NEXT);
-        aboutIs("and as it does not gather", idle, 0, 0, 0, 0, 0, 0, 0, 0, 0);
+        Due.aboutIs("and as it does not gather", idle, 0, 0, 0, 0, 0, 0, 0, 0, 0);
         Check.equal("no answer", idle.node(1, 3), 0);
     }
 
@@ -454,7 +426,7 @@ public final class MessagesTest {
         Check.equal("it gathers though off", bus.about(0, 4), 1);
         Buses.over(bus, 5, X, NEXT);
         bus.rounds(8);
-        aboutIs("but hears nothing", bus, 0, 0, 0, 0, 0, 1, 2, 2, 1);
+        Due.aboutIs("but hears nothing", bus, 0, 0, 0, 0, 0, 1, 2, 2, 1);
     }
 
     private static void answersThatFindNoRoom() {
@@ -476,21 +448,21 @@ public final class MessagesTest {
         Buses.send(bus, 0, 5, 6);
         bus.spoil(Buses.bitsOf(X, 2, 5, 6) - 1);
         bus.round();
-        aboutIs("came, but was not sent", bus, 1, 0, 0, 0, 0, 0, 0, 1, 2);
+        Due.aboutIs("came, but was not sent", bus, 1, 0, 0, 0, 0, 0, 0, 1, 2);
         bus.round();
-        aboutIs("came twice", bus, 0, 0, 0, 1, 0, 0, 0, 2, 2);
+        Due.aboutIs("came twice", bus, 0, 0, 0, 1, 0, 0, 0, 2, 2);
         Buses.send(bus, 0, 1, 2, 3, 4, 5, 6, 7, 8);
         bus.rounds(2);
         bus.spoil(Buses.bitsOf(X, 0x21, 7, 8) - 1);
         bus.rounds(2);
-        aboutIs("the last piece again is nothing", bus, 0, 0, 0, 2, 0, 0, 0, 3, 8);
+        Due.aboutIs("the last piece again is nothing", bus, 0, 0, 0, 2, 0, 0, 0, 3, 8);
         Buses.send(bus, 0, 1, 2, 3, 4, 5, 6, 7, 8);
         bus.spoil(Buses.bitsOf(X, 0x10, 8, 1, 2, 3, 4, 5, 6) - 1);
         bus.rounds(2);
-        aboutIs("a first one again", bus, 2, 0, 0, 2, 1, 1, 3, 3, 8);
+        Due.aboutIs("a first one again", bus, 2, 0, 0, 2, 1, 1, 3, 3, 8);
         Check.equal("answered twice", bus.node(1, 3), 2);
         bus.rounds(3);
-        aboutIs("it is well all the same", bus, 0, 0, 0, 3, 0, 1, 3, 4, 8);
+        Due.aboutIs("it is well all the same", bus, 0, 0, 0, 3, 0, 1, 3, 4, 8);
     }
 
     private static void connectReplaces() {
@@ -498,32 +470,32 @@ public final class MessagesTest {
         Buses.send(bus, 0, Buses.message(30));
         bus.round();
         bus.connect(0, 0, 1, Y, X, 0);
-        aboutIs("all is new", bus, 0, 0, 0, 0, 0, 0, 0, 0, 0);
+        Due.aboutIs("all is new", bus, 0, 0, 0, 0, 0, 0, 0, 0, 0);
         Check.equal("its answer stays in the box", bus.node(1, 3), 1);
         bus.connect(0, 0, 1, X, Y, 0);
         Buses.send(bus, 0, 7, 7);
         bus.connect(0, 0, 1, X, Y, 0);
-        aboutIs("of no message", bus, 0, 0, 0, 0, 0, 0, 0, 0, 0);
+        Due.aboutIs("of no message", bus, 0, 0, 0, 0, 0, 0, 0, 0, 0);
         Check.equal("stays in the box", bus.node(0, 3), 1);
         Buses.send(bus, 0, 8);
         Check.equal("behind it", bus.node(0, 3), 2);
         bus.round();
-        aboutIs("it is heard, but not the message's", bus, 1, 0, 0, 0, 0, 0, 0, 1, 2);
+        Due.aboutIs("it is heard, but not the message's", bus, 1, 0, 0, 0, 0, 0, 0, 1, 2);
         bus.round();
-        aboutIs("sent", bus, 0, 0, 0, 1, 0, 0, 0, 2, 1);
+        Due.aboutIs("sent", bus, 0, 0, 0, 1, 0, 0, 0, 2, 1);
         Buses.over(bus, 0, X, FIRST_OF_20);
         Buses.over(bus, 0, X, LAST);
         Buses.send(bus, 0, Buses.message(30));
         Buses.frame(bus, 2, X, 9);
         bus.rounds(33);
-        aboutIs("all have happened", bus, 0, 1, 3, 1, 0, 1, 1, 2, 1);
+        Due.aboutIs("all have happened", bus, 0, 1, 3, 1, 0, 1, 1, 2, 1);
         bus.connect(0, 0, 2, X, Y, 0);
-        aboutIs("all is new once more", bus, 0, 0, 0, 0, 0, 0, 0, 0, 0);
+        Due.aboutIs("all is new once more", bus, 0, 0, 0, 0, 0, 0, 0, 0, 0);
         Check.refuses("no message came", IndexOutOfBoundsException.class, () -> bus.byteAt(0, 0));
         bus.connect(7, 5, 4, 0, 2047, 15);
         Buses.send(bus, 7, Buses.message(400));
         bus.rounds(70);
-        messageIs("the last connection", bus, 7, Buses.message(400));
+        Due.messageIs("the last connection", bus, 7, Buses.message(400));
     }
 
     private static void framesOfTheOneBeforeAreOfNoMessage() {
@@ -531,12 +503,12 @@ public final class MessagesTest {
         Buses.send(bus, 0, 7);
         bus.connect(0, 0, 1, X, Y, 0);
         bus.round();
-        aboutIs("it came, but none was sent", bus, 0, 0, 0, 0, 0, 0, 0, 1, 1);
+        Due.aboutIs("it came, but none was sent", bus, 0, 0, 0, 0, 0, 0, 0, 1, 1);
         Buses.send(bus, 0, Buses.message(30));
         bus.connect(0, 0, 1, X + 1, Y + 1, 0);
         bus.connect(1, 0, 1, X, Y, 0);
         bus.rounds(3);
-        aboutIs("none of the new one's", bus, 0, 0, 0, 0, 0, 0, 0, 0, 0);
+        Due.aboutIs("none of the new one's", bus, 0, 0, 0, 0, 0, 0, 0, 0, 0);
         Check.equal("none of the other one's", bus.about(1, 0), 0);
         Check.equal("but it is heard there", bus.about(1, 4), 1);
     }

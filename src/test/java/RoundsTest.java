@@ -31,37 +31,25 @@ public final class RoundsTest {
         Check.finish();
     }
 
-    private static void latestIs(String when, StuffedBus bus, int identifier, int node, int error, int bits) {
-        Check.equal(when + ": identifier", bus.latest(0), identifier);
-        Check.equal(when + ": sender", bus.latest(1), node);
-        Check.equal(when + ": error", bus.latest(2), error);
-        Check.equal(when + ": bits", bus.latest(3), bits);
-    }
-
-    private static void countsAre(String when, StuffedBus bus, int node, int sent, int heard) {
-        Check.equal(when + ": node " + node + " sent", bus.node(node, 0), sent);
-        Check.equal(when + ": node " + node + " heard", bus.node(node, 1), heard);
-    }
-
     private static void aFrameIsSent() {
         StuffedBus bus = new StuffedBus();
         Check.equal("in the box", Buses.frame(bus, 3, 0), 1);
         Check.equal("node 3 has it", bus.node(3, 3), 1);
         Check.equal("round", bus.round(), 50);
-        latestIs("sent", bus, 0, 3, 0, 50);
+        Due.latestIs("sent", bus, 0, 3, 0, 50);
         Check.equal("left the box", bus.node(3, 3), 0);
-        countsAre("never below 0", bus, 3, 0, 0);
-        countsAre("never below 0", bus, 2, 0, 0);
+        Due.countsAre("never below 0", bus, 3, 0, 0);
+        Due.countsAre("never below 0", bus, 2, 0, 0);
         Check.equal("frame of 2047", Buses.frame(bus, 3, 2047), 1);
         Check.equal("round", bus.round(), 47);
-        latestIs("sent", bus, 2047, 3, 0, 47);
+        Due.latestIs("sent", bus, 2047, 3, 0, 47);
     }
 
     private static void roundsWithoutFramesHaveNoBits() {
         StuffedBus bus = new StuffedBus();
         Buses.over(bus, 0, 5);
         Check.equal("nothing", bus.round(), 0);
-        latestIs("nothing", bus, -1, -1, 0, 0);
+        Due.latestIs("nothing", bus, -1, -1, 0, 0);
     }
 
     private static void boxesAreFirstInFirstOut() {
@@ -112,10 +100,11 @@ public final class RoundsTest {
         int[] bytes = {9, 9, 255, 0};
         for (int i = 0; i < 4; i++) {
             bus.round();
-            latestIs("turn " + i, bus, identifiers[i], nodes[i], 0, Buses.bitsOf(identifiers[i], bytes[i]));
+            int bits = Buses.bitsOf(identifiers[i], bytes[i]);
+            Due.latestIs("turn " + i, bus, identifiers[i], nodes[i], 0, bits);
         }
         for (int node = 0; node < 6; node++) {
-            countsAre("no error", bus, node, 0, 0);
+            Due.countsAre("no error", bus, node, 0, 0);
         }
     }
 
@@ -125,16 +114,16 @@ public final class RoundsTest {
         Buses.frame(bus, 2, 77, 1);
         bus.spoil(0);
         bus.round();
-        countsAre("both sent", bus, 5, 8, 0);
-        countsAre("both sent", bus, 2, 8, 0);
+        Due.countsAre("both sent", bus, 5, 8, 0);
+        Due.countsAre("both sent", bus, 2, 8, 0);
         Buses.frame(bus, 2, 78, 1);
         bus.round();
-        latestIs("of several the least", bus, 77, 2, 0, Buses.bitsOf(77, 1));
+        Due.latestIs("of several the least", bus, 77, 2, 0, Buses.bitsOf(77, 1));
         Check.equal("left box 5", bus.node(5, 3), 0);
         Check.equal("left box 2", bus.node(2, 3), 1);
-        countsAre("both one less", bus, 5, 7, 0);
-        countsAre("both one less", bus, 2, 7, 0);
-        countsAre("others heard", bus, 0, 0, 0);
+        Due.countsAre("both one less", bus, 5, 7, 0);
+        Due.countsAre("both one less", bus, 2, 7, 0);
+        Due.countsAre("others heard", bus, 0, 0, 0);
     }
 
     private static void otherBytesUnderOneIdentifierAreAnError() {
@@ -143,11 +132,11 @@ public final class RoundsTest {
         Buses.frame(bus, 3, 9, 1, 3);
         Buses.frame(bus, 4, 10, 1);
         Check.equal("ends at the first other bit", bus.round(), 39);
-        latestIs("spoilt", bus, -1, -1, 1, 39);
-        countsAre("sent", bus, 0, 8, 0);
-        countsAre("sent", bus, 3, 8, 0);
-        countsAre("lost before, so heard", bus, 4, 0, 1);
-        countsAre("heard", bus, 1, 0, 1);
+        Due.latestIs("spoilt", bus, -1, -1, 1, 39);
+        Due.countsAre("sent", bus, 0, 8, 0);
+        Due.countsAre("sent", bus, 3, 8, 0);
+        Due.countsAre("lost before, so heard", bus, 4, 0, 1);
+        Due.countsAre("heard", bus, 1, 0, 1);
         Check.equal("stays in the box", bus.node(0, 3), 1);
     }
 
@@ -166,14 +155,14 @@ public final class RoundsTest {
         Buses.frame(bus, 0, identifier);
         bus.spoil(bit);
         Check.equal(when + ": bits", bus.round(), bits);
-        latestIs(when, bus, -1, -1, error, bits);
-        countsAre(when, bus, 0, sent, heard);
-        countsAre(when, bus, 5, 0, 1);
+        Due.latestIs(when, bus, -1, -1, error, bits);
+        Due.countsAre(when, bus, 0, sent, heard);
+        Due.countsAre(when, bus, 5, 0, 1);
         Check.equal(when + ": stays", bus.node(0, 3), 1);
         bus.round();
         Check.equal(when + ": goes then", bus.latest(0), identifier);
-        countsAre(when + " and sent again", bus, 0, sent > 0 ? 7 : 0, heard);
-        countsAre(when + " and sent again", bus, 5, 0, 0);
+        Due.countsAre(when + " and sent again", bus, 0, sent > 0 ? 7 : 0, heard);
+        Due.countsAre(when + " and sent again", bus, 5, 0, 0);
     }
 
     private static void spoiltBitsBeforeTheEnd() {
@@ -202,9 +191,9 @@ public final class RoundsTest {
         Buses.frame(bus, 5, 2047, 255);
         bus.spoil(4);
         Check.equal("six 1s behind it", bus.round(), 11);
-        latestIs("none sends any more", bus, -1, -1, 2, 11);
+        Due.latestIs("none sends any more", bus, -1, -1, 2, 11);
         for (int node = 0; node < 6; node++) {
-            countsAre("all hear", bus, node, 0, 1);
+            Due.countsAre("all hear", bus, node, 0, 1);
         }
     }
 
@@ -215,14 +204,14 @@ public final class RoundsTest {
         bus.spoil(2);
         bus.round();
         // Node 0 sends 1 and reads 1, node 1 sends 0 and reads 1; both still send then.
-        latestIs("read as 1", bus, -1, -1, 1, 3);
-        countsAre("sends 1", bus, 0, 8, 0);
-        countsAre("sends 0", bus, 1, 8, 0);
+        Due.latestIs("read as 1", bus, -1, -1, 1, 3);
+        Due.countsAre("sends 1", bus, 0, 8, 0);
+        Due.countsAre("sends 0", bus, 1, 8, 0);
         Buses.frame(bus, 2, 0b10000000000);
         bus.spoil(2);
         bus.round();
-        latestIs("once more", bus, -1, -1, 1, 3);
-        countsAre("lost one bit before", bus, 2, 0, 2);
+        Due.latestIs("once more", bus, -1, -1, 1, 3);
+        Due.countsAre("lost one bit before", bus, 2, 0, 2);
     }
 
     private static void spoiltBitsOfTheEnd() {
@@ -235,9 +224,9 @@ public final class RoundsTest {
             }
             bus.spoil(40 + place);
             Check.equal("ends at place " + place, bus.round(), 41 + place);
-            latestIs("place " + place, bus, -1, -1, place == 1 ? 4 : 3, 41 + place);
-            countsAre("place " + place, bus, 0, 32, 0);
-            countsAre("place " + place, bus, 1, 0, place == 9 ? 2 : 4);
+            Due.latestIs("place " + place, bus, -1, -1, place == 1 ? 4 : 3, 41 + place);
+            Due.countsAre("place " + place, bus, 0, 32, 0);
+            Due.countsAre("place " + place, bus, 1, 0, place == 9 ? 2 : 4);
             Check.equal("stays", bus.node(0, 3), 1);
         }
     }
@@ -250,11 +239,11 @@ public final class RoundsTest {
         bus.spoil(bits - 2);
         bus.round();
         Check.equal("the last but one was wrong", bus.about(0, 7), 0);
-        countsAre("not heard", bus, 1, 0, 1);
+        Due.countsAre("not heard", bus, 1, 0, 1);
         bus.spoil(bits - 1);
         bus.round();
         Check.equal("only the last was wrong", bus.about(0, 7), 1);
-        countsAre("heard, so one less", bus, 1, 0, 0);
+        Due.countsAre("heard, so one less", bus, 1, 0, 0);
         bus.spoil(bits);
         bus.round();
         Check.equal("heard once more", bus.about(0, 7), 2);
@@ -274,12 +263,12 @@ public final class RoundsTest {
         StuffedBus bus = withNodeFiveAlone();
         Buses.frame(bus, 5, 0);
         Check.equal("the answer is 1", bus.round(), 42);
-        latestIs("no answer", bus, -1, -1, 4, 42);
-        countsAre("no answer", bus, 5, 8, 0);
+        Due.latestIs("no answer", bus, -1, -1, 4, 42);
+        Due.countsAre("no answer", bus, 5, 8, 0);
         bus.spoil(41);
         Check.equal("a spoilt answer is one", bus.round(), 50);
-        latestIs("sent", bus, 0, 5, 0, 50);
-        countsAre("sent", bus, 5, 7, 0);
+        Due.latestIs("sent", bus, 0, 5, 0, 50);
+        Due.countsAre("sent", bus, 5, 7, 0);
         StuffedBus all = new StuffedBus();
         for (int node = 0; node < 6; node++) {
             Buses.frame(all, node, 3, 3);
@@ -393,15 +382,15 @@ public final class RoundsTest {
         Buses.frame(bus, 0, 0);
         Buses.frame(bus, 1, 2047);
         Check.equal("none", bus.rounds(0), 0);
-        latestIs("none", bus, -1, -1, 0, 0);
+        Due.latestIs("none", bus, -1, -1, 0, 0);
         Check.equal("two and empty ones", bus.rounds(1000), 97);
-        latestIs("the last one", bus, -1, -1, 0, 0);
+        Due.latestIs("the last one", bus, -1, -1, 0, 0);
         Buses.frame(bus, 0, 0);
         Buses.frame(bus, 1, 2047);
         Check.equal("both", bus.rounds(2), 97);
-        latestIs("the last one", bus, 2047, 1, 0, 47);
+        Due.latestIs("the last one", bus, 2047, 1, 0, 47);
         bus.rounds(0);
-        latestIs("still", bus, 2047, 1, 0, 47);
+        Due.latestIs("still", bus, 2047, 1, 0, 47);
         Buses.frame(bus, 0, 0);
         Check.refuses("-1", IllegalArgumentException.class, () -> bus.rounds(-1));
         Check.refuses("1001", IllegalArgumentException.class, () -> bus.rounds(1001));
