@@ -15,6 +15,7 @@ public final class EdgesOfMessagesTest {
     }
 
     public static void main(String[] args) {
+        noConnections();
         connectionsAreEight();
         identifiersOfConnections();
         blocks();
@@ -33,6 +34,7 @@ public final class EdgesOfMessagesTest {
         waitsAnew();
         abortedByTheHearer();
         othersAreNothingToTheSender();
+        emptyFramesAreNothing();
         answersAreNothingToOneThatDoesNotWait();
         moreThanFortyRoundsOfWaiting();
         theRoundInWhichItBeganDoesNotCount();
@@ -60,6 +62,7 @@ public final class EdgesOfMessagesTest {
         answersWithoutRoom();
         connectInPlace();
         framesOfTheOneBefore();
+        framesOfOtherConnections();
         freedIdentifiers();
         sendEmptiesTheTape();
         sendToTheSixteenthPlace();
@@ -109,6 +112,24 @@ public final class EdgesOfMessagesTest {
     private static void fill(StuffedBus bus, int node, int n) {
         for (int i = 0; i < n; i++) {
             Buses.frame(bus, node, 1000);
+        }
+    }
+
+    // promise 1: "no connections": frames of all sorts are heard, and nobody answers
+    private static void noConnections() {
+        StuffedBus bus = new StuffedBus();
+        for (int identifier : new int[] {0, 1, 2047}) {
+            for (int node = 0; node < 6; node++) {
+                Buses.over(bus, node, identifier, FIRST_OF_20);
+                Check.equal("it went", bus.latest(0), identifier);
+                Check.equal("no answer", bus.round(), 0);
+            }
+        }
+        for (int c = 0; c < 8; c++) {
+            int none = c;
+            Check.refuses("about", IndexOutOfBoundsException.class, () -> bus.about(none, 0));
+            Check.refuses("byteAt", IndexOutOfBoundsException.class, () -> bus.byteAt(none, 0));
+            Check.refuses("send", IndexOutOfBoundsException.class, () -> bus.send(none));
         }
     }
 
@@ -407,6 +428,30 @@ public final class EdgesOfMessagesTest {
         StuffedBus own = waiting(8);
         Buses.over(own, 0, Y, 48, 0);
         Due.aboutIs("a frame that its own node sends is not heard", own, 2, 0, 0, 0);
+    }
+
+    // the same, of a frame that is empty, whatever went before it from the same places of the box
+    private static void emptyFramesAreNothing() {
+        StuffedBus bus = unheard();
+        for (int i = 0; i < 16; i++) {
+            answer(bus, 50, 0, 0);
+        }
+        Buses.send(bus, 0, Buses.message(8));
+        bus.round();
+        for (int i = 0; i < 16; i++) {
+            answer(bus);
+            Due.aboutIs("empty", bus, 2, 0, 0, 0);
+        }
+        StuffedBus hearer = connected(0);
+        for (int i = 0; i < 16; i++) {
+            Buses.over(hearer, 0, X, NEXT);
+        }
+        Buses.over(hearer, 3, X, FIRST_OF_20);
+        hearer.round();
+        for (int i = 0; i < 16; i++) {
+            Buses.over(hearer, 0, X);
+            Due.aboutIs("empty", hearer, 0, 0, 0, 0, 1, 0, 0, 0, 0);
+        }
     }
 
     // the same, of answers to one that sends or has nothing to send
@@ -835,9 +880,14 @@ public final class EdgesOfMessagesTest {
         Buses.over(bus, 0, X, FIRST_OF_20);
         Buses.over(bus, 0, X, 1, 9);
         bus.round();
+        fill(bus, 1, 16);
         Buses.send(bus, 0, Buses.message(30));
         bus.round();
-        Due.aboutIs("much has been", bus, 2, 0, 0, 1, 1, 1, 3, 2, 1);
+        answer(bus, 50);
+        bus.rounds(16);
+        Buses.send(bus, 0, Buses.message(30));
+        bus.round();
+        Due.aboutIs("much has been", bus, 2, 1, 1, 1, 1, 2, 3, 2, 1);
         bus.connect(0, 0, 1, X, Y, 0);
         Due.aboutIs("all is new", bus, 0, 0, 0, 0, 0, 0, 0, 0, 0);
         Check.refuses("no message", IndexOutOfBoundsException.class, () -> bus.byteAt(0, 0));
@@ -864,6 +914,23 @@ public final class EdgesOfMessagesTest {
         Check.equal("an answer stays too", answered.node(1, 3), 1);
         answered.round();
         Check.equal("and goes", answered.latest(0), Y);
+    }
+
+    // the same: those of other connections are of their messages as before
+    private static void framesOfOtherConnections() {
+        StuffedBus bus = connected(0);
+        Buses.send(bus, 0, Buses.message(13));
+        bus.connect(1, 0, 1, 5, 6, 0);
+        Buses.send(bus, 1, 3);
+        bus.connect(1, 0, 1, 7, 8, 0);
+        bus.round();
+        Due.aboutIs("its first frame is sent", bus, 2, 0, 0, 0, 1);
+        bus.connect(1, 0, 1, 5, 6, 0);
+        bus.rounds(3);
+        Due.messageIs("and all others", bus, 0, Buses.message(13));
+        Check.equal("sent", bus.about(0, 3), 1);
+        Check.equal("that of the one before is of none", bus.about(1, 3), 0);
+        Due.messageIs("but it is heard", bus, 1, 3);
     }
 
     // promise 4: an identifier is "one of another connection" only as long as that one has it
