@@ -55,6 +55,7 @@ public final class EdgesOfRoundsTest {
         nodeTellsItsFour();
         restartOfOneThatIsOff();
         restartOfOneThatIsNot();
+        fiveHundredAndTwelveCalls();
         Check.finish();
     }
 
@@ -782,5 +783,20 @@ public final class EdgesOfRoundsTest {
         }
         Check.same("nothing changes", State.of(bus), before);
         Check.equal("nor the bit to be spoilt", bus.round(), 1);
+    }
+
+    // "An object is used for at most 512 calls after it has been made": the last ones answer as the first
+    private static void fiveHundredAndTwelveCalls() {
+        StuffedBus bus = new StuffedBus();
+        for (int call = 0; call < 508; call += 4) {
+            Check.equal("frame", bus.frame(call / 4 % 6, 0), 1);
+            bus.spoil(0);
+            Check.equal("1000 rounds", bus.rounds(1000), 1 + 50);
+            Check.equal("the last of them had none", bus.latest(3), 0);
+        }
+        Check.equal("call 509", bus.frame(5, 2047), 1);
+        Check.equal("call 510", bus.round(), 47);
+        Check.equal("call 511", bus.latest(0), 2047);
+        Check.equal("call 512", bus.latest(1), 5);
     }
 }
