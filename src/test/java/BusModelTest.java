@@ -1,9 +1,15 @@
 import java.util.Random;
 
-/** Runs of chance calls (the same ones each time), StuffedBus against BusModel, answer by answer. */
+/**
+ * Runs of chance calls (the same ones each time), StuffedBus against BusModel, answer by answer. No
+ * object gets more than 512 calls, as nothing is promised beyond these: behind each call that does
+ * something one question is asked, and at the end of the run all.
+ */
 public final class BusModelTest {
-    private static final int RUNS = 600;
-    private static final int CALLS = 250;
+    private static final int RUNS = 4000;
+    private static final int CALLS = 512;
+    // A step makes up to 26 calls, with its question; all questions, but for bytes, are up to 100.
+    private static final int LONGEST = CALLS - 26 - 100;
     private static final int[] ODD = {-1, 6, 8, 16, 200, 1001, 2048, Integer.MIN_VALUE, Integer.MAX_VALUE};
 
     private final Random chance;
@@ -15,6 +21,7 @@ public final class BusModelTest {
     private final int[] used = {3, 5, 9, 100, 0, 2047, 1984, 63, 1055, 31};
     private final boolean[] connected = new boolean[8];
     private final StringBuilder story = new StringBuilder();
+    private int calls;
 
     private interface Call {
         long answer();
@@ -38,13 +45,16 @@ public final class BusModelTest {
     }
 
     private boolean agrees() {
-        for (int i = 0; i < CALLS; i++) {
-            if (!callAgrees() || !stateAgrees()) {
-                System.out.println(story);
-                return false;
-            }
+        int length = LONGEST / 4 + chance.nextInt(LONGEST - LONGEST / 4);
+        boolean agrees = true;
+        while (calls < length && agrees) {
+            agrees = callAgrees() && questionAgrees();
         }
-        return true;
+        agrees = agrees && stateAgrees();
+        if (!agrees) {
+            System.out.println(story);
+        }
+        return agrees;
     }
 
     private static String outcome(Call call) {
@@ -56,6 +66,7 @@ public final class BusModelTest {
     }
 
     private boolean same(String call, Call ours, Call due) {
+        calls++;
         String got = outcome(ours);
         String want = outcome(due);
         story.append(call).append(" -> ").append(got).append('\n');
@@ -175,45 +186,63 @@ public final class BusModelTest {
         int identifier = identifierOfFrame();
         boolean agrees = same("coded " + identifier,
                 () -> bus.coded(identifier), () -> model.coded(identifier));
-        for (int i = -1; i < 130 && agrees; i++) {
+        int from = chance.nextInt(115);
+        for (int i = from; i < from + 15 && agrees; i++) {
             int at = i;
             agrees = same("bit " + at, () -> bus.bit(at), () -> model.bit(at));
         }
         return agrees;
     }
 
-    /** All that can be asked, or (more seldom, as exceptions are slow) with wrong numbers too. */
+    private boolean questionAgrees() {
+        switch (chance.nextInt(5)) {
+            case 0:
+                return latestAgrees(below(4));
+            case 1:
+                return nodeAgrees(below(6), below(4));
+            case 2:
+                int at = below(40);
+                int c = below(8);
+                return same("byteAt " + c + " " + at, () -> bus.byteAt(c, at), () -> model.byteAt(c, at));
+            default:
+                return aboutAgrees(chance.nextInt(4) == 0 ? below(8) : below(3), below(9));
+        }
+    }
+
+    private boolean latestAgrees(int what) {
+        return same("latest " + what, () -> bus.latest(what), () -> model.latest(what));
+    }
+
+    private boolean nodeAgrees(int n, int what) {
+        return same("node " + n + " " + what, () -> bus.node(n, what), () -> model.node(n, what));
+    }
+
+    private boolean aboutAgrees(int c, int what) {
+        return same("about " + c + " " + what, () -> bus.about(c, what), () -> model.about(c, what));
+    }
+
     private boolean stateAgrees() {
-        int before = story.length();
-        int beyond = chance.nextInt(50) == 0 ? 1 : 0;
         boolean agrees = true;
-        for (int w = -beyond; w < 4 + beyond && agrees; w++) {
-            int what = w;
-            agrees = same("latest " + what, () -> bus.latest(what), () -> model.latest(what));
-            for (int i = -beyond; i < 6 + beyond && agrees; i++) {
-                int n = i;
-                agrees = same("node " + n + " " + what, () -> bus.node(n, what), () -> model.node(n, what));
+        for (int what = 0; what < 4 && agrees; what++) {
+            agrees = latestAgrees(what);
+            for (int n = 0; n < 6 && agrees; n++) {
+                agrees = nodeAgrees(n, what);
             }
         }
-        for (int i = -beyond; i < 8 + beyond && agrees; i++) {
-            if (beyond == 1 || connected[i]) {
-                agrees = lineAgrees(i, beyond);
+        for (int c = 0; c < 8 && agrees; c++) {
+            for (int what = 0; what < 9 && agrees && connected[c]; what++) {
+                agrees = aboutAgrees(c, what);
             }
         }
-        if (agrees) {
-            story.setLength(before);
+        for (int c = 0; c < 8 && agrees; c++) {
+            agrees = !connected[c] || messageAgrees(c);
         }
         return agrees;
     }
 
-    private boolean lineAgrees(int c, int beyond) {
+    private boolean messageAgrees(int c) {
         boolean agrees = true;
-        for (int w = -beyond; w < 9 + beyond && agrees; w++) {
-            int what = w;
-            agrees = same("about " + c + " " + what, () -> bus.about(c, what), () -> model.about(c, what));
-        }
-        int length = c >= 0 && c < 8 && connected[c] ? model.about(c, 8) : 0;
-        for (int i = -beyond; i < length + beyond && agrees; i++) {
+        for (int i = 0; i < model.about(c, 8) && calls < CALLS && agrees; i++) {
             int at = i;
             agrees = same("byteAt " + c + " " + at, () -> bus.byteAt(c, at), () -> model.byteAt(c, at));
         }

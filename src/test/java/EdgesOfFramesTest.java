@@ -141,7 +141,7 @@ public final class EdgesOfFramesTest {
         return text.toString();
     }
 
-    // "STUFFED: whenever five bits one behind the other are the same, one of the other sort is put in"
+    // "STUFFED: whenever five bits one behind the other are the same .. , one of the other sort is put in"
     private static void fiveTheSame() {
         Check.same("four 0s", coded(0b00011011011).substring(0, 12), "000011011011");
         Check.same("five 0s", coded(0b00001101101).substring(0, 13), "0000011101101");

@@ -243,7 +243,8 @@ public final class EdgesOfMessagesTest {
             Due.goesJustSo("following " + k, bus, 0, X, heads[k % 16],
                     m[at], m[at + 1], m[at + 2], m[at + 3], m[at + 4], m[at + 5], m[at + 6]);
         }
-        Due.messageIs("all", bus, 0, m);
+        Due.aboutIs("all", bus, 0, 0, 0, 1, 0, 0, 0, 1, m.length);
+        Check.equal("the last byte", bus.byteAt(0, m.length - 1), m[m.length - 1]);
     }
 
     // "and the next 7 (or what is left)"
@@ -740,8 +741,8 @@ public final class EdgesOfMessagesTest {
     // "behind each BLOCK of them (if it is not there yet) it answers 48 likewise"
     private static void itAnswersBehindEachBlock() {
         for (int block : new int[] {0, 1, 2, 15}) {
-            StuffedBus bus = gathering(block, 0x11, 0x90, 0, 0, 0, 0, 0, 0);
-            for (int k = 1; k < 57; k++) {
+            StuffedBus bus = gathering(block, 0x10, 6 + 7 * 31, 0, 0, 0, 0, 0, 0);
+            for (int k = 1; k < 31; k++) {
                 Buses.over(bus, 0, X, 32 + k % 16, k, k, k, k, k, k, k);
                 boolean due = block > 0 && k % block == 0;
                 Check.equal("block " + block + ", behind " + k, bus.node(1, 3), due ? 1 : 0);
@@ -749,7 +750,7 @@ public final class EdgesOfMessagesTest {
                     Due.goesJustSo("likewise", bus, 1, Y, 48, block, 0);
                 }
             }
-            Buses.over(bus, 0, X, 32 + 57 % 16, 0, 0, 0, 0, 0, 0, 0);
+            Buses.over(bus, 0, X, 32 + 31 % 16, 0, 0, 0, 0, 0, 0, 0);
             Check.equal("there", bus.about(0, 7), 1);
             Check.equal("no answer", bus.node(1, 3), 0);
         }

@@ -121,8 +121,8 @@ public final class EdgesOfRoundsTest {
         StuffedBus bus = new StuffedBus();
         int in = 0;
         int out = 0;
-        while (out < 60) {
-            while (in < out + 16 && in < 60) {
+        while (out < 50) {
+            while (in < out + 16 && in < 50) {
                 Buses.frame(bus, 0, 1000 - in, in);
                 in++;
             }
@@ -164,10 +164,11 @@ public final class EdgesOfRoundsTest {
         Check.equal("256", bus.node(0, 0), 256);
         Check.equal("is off", bus.node(0, 2), 1);
         Check.equal("the second count has no such bound", bus.node(1, 1), 32);
+        bus.restart(0);
         for (int i = 0; i < 8; i++) {
+            Buses.switchOff(bus, 0, 2);
             bus.restart(0);
-            Buses.frame(bus, 0, 0);
-            spoiltRounds(bus, 32);
+            bus.restart(2);
         }
         Check.equal("heard 288", bus.node(1, 1), 288);
         Check.equal("is not off", bus.node(1, 2), 0);

@@ -42,8 +42,9 @@ public final class LanguageTest {
     private LanguageTest() {
     }
 
-    public static void main(String[] args) throws IOException {
+    public static void main(String[] args) throws IOException, NoSuchFieldException {
         theFaceIsTheDocuments();
+        theConstantIsTheDocuments();
         nothingElseIsVisible();
         classesInsideArePrivateAndStatic();
         theSourceHasNothingForbidden();
@@ -73,6 +74,14 @@ public final class LanguageTest {
         Constructor<?>[] constructors = StuffedBus.class.getDeclaredConstructors();
         Check.equal("constructors", constructors.length, 1);
         Check.equal("its parameters", constructors[0].getParameterCount(), 0);
+        Check.equal("it is public", constructors[0].getModifiers(), Modifier.PUBLIC);
+    }
+
+    private static void theConstantIsTheDocuments() throws NoSuchFieldException {
+        Field none = StuffedBus.class.getDeclaredField("NONE");
+        Check.isTrue("NONE is an int", none.getType() == int.class);
+        Check.equal("it is public", none.getModifiers(), Modifier.PUBLIC | Modifier.STATIC | Modifier.FINAL);
+        Check.equal("its value", StuffedBus.NONE, -1);
     }
 
     private static void nothingElseIsVisible() {

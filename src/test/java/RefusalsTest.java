@@ -17,6 +17,7 @@ public final class RefusalsTest {
     private static final int[] NO_CONNECTION = {-1, 8, LEAST, MOST};
     private static final int[] NO_IDENTIFIER = {-1, 2048, LEAST, MOST};
     private static final int[] NO_BLOCK = {-1, 16, LEAST, MOST};
+    private static final int[] LATER = {0, 1, 2, 3, 5, 34, 63, 92, 150};
 
     /** NEW has nothing; in the others much goes on, and node 3 has a full box, or is off as node 0 is. */
     private enum Kind { NEW, BUSY, FULL, OFF }
@@ -121,26 +122,35 @@ public final class RefusalsTest {
         return n;
     }
 
+    private static StuffedBus madeAndCalled(Kind kind, int tape, On call) {
+        StuffedBus bus = made(kind, tape);
+        try {
+            call.call(bus);
+        } catch (RuntimeException refusal) {
+            return bus;
+        }
+        return bus;
+    }
+
     /** What a bus does from here on: the tape's bytes come over a connection, and time passes. */
-    private static String future(StuffedBus bus) {
+    private static String after(StuffedBus bus, int rounds) {
         int length = tapeLength(bus);
-        StringBuilder text = new StringBuilder("tape " + length);
         bus.end(Math.min(length, 400));
         bus.connect(7, 5, 4, 2046, 2045, 0);
         if (length > 0) {
             bus.send(7);
         }
-        for (int i = 0; i < 150; i++) {
-            text.append("; ").append(bus.round());
-            if (i < 5 || i % 29 == 4) {
-                text.append(": ").append(State.of(bus));
-            }
-        }
-        return text.toString();
+        int bits = bus.rounds(rounds);
+        return "tape " + length + ", " + bits + " bits in " + rounds + " rounds: " + State.of(bus);
     }
 
-    private static String presentAndFuture(StuffedBus bus) {
-        return State.of(bus) + "; then " + future(bus);
+    /** Each look is at an object of its own, as one that is asked all each time gets too many calls. */
+    private static String presentAndFuture(Kind kind, int tape, On call) {
+        StringBuilder text = new StringBuilder(State.of(madeAndCalled(kind, tape, call)));
+        for (int rounds : LATER) {
+            text.append("; ").append(after(madeAndCalled(kind, tape, call), rounds));
+        }
+        return text.toString();
     }
 
     private static void refused(
@@ -149,8 +159,8 @@ public final class RefusalsTest {
         StuffedBus bus = made(kind, tape);
         Check.refuses(all, due, () -> refused.call(bus));
         String untouched = UNTOUCHED.computeIfAbsent(
-                kind + " " + tape, key -> presentAndFuture(made(kind, tape)));
-        Check.same(all + " changed something", presentAndFuture(bus), untouched);
+                kind + " " + tape, key -> presentAndFuture(kind, tape, none -> { }));
+        Check.same(all + " changed something", presentAndFuture(kind, tape, refused), untouched);
     }
 
     private static void refusedAlways(

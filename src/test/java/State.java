@@ -1,4 +1,4 @@
-/** All that a bus answers when it is asked, as a text. */
+/** What a bus answers when it is asked all (of the bytes of long messages some), as a text. */
 final class State {
     private final StuffedBus bus;
     private final StringBuilder text = new StringBuilder();
@@ -41,8 +41,14 @@ final class State {
             text.append(' ').append(bus.about(c, what));
         }
         text.append(" with");
-        for (int i = 0; i < bus.about(c, 8); i++) {
+        int length = bus.about(c, 8);
+        // An object has 512 calls: all bytes of long messages would be too many.
+        int step = length > 40 ? 7 : 1;
+        for (int i = 0; i < length; i += step) {
             text.append(' ').append(bus.byteAt(c, i));
+        }
+        if (length > 0) {
+            text.append(", at last ").append(bus.byteAt(c, length - 1));
         }
     }
 
